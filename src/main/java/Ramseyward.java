@@ -932,7 +932,7 @@ public final class Ramseyward {
             for (int step = 1; step * (size - 2) < number; step++) {
                 boolean isGood = true;
                 for (int times = 1; times <= size - 2; times++) {
-                    isGood &= (steps >>> (step * times) & 1) != 0;
+                    isGood = isGood && (steps >>> (step * times) & 1) != 0;
                 }
                 if (isGood) {
                     good |= 1 << step;
