@@ -67,6 +67,7 @@ public final class FormTest {
             Check.same(one + " is public or private", isPublic || Modifier.isPrivate(one.getModifiers()), true);
             Check.same(one + " has a name of its own", isPublic || !names.contains(one.getName()), true);
         }
+        Check.same("a constructor and 43 methods", face.size(), 44);
         Check.same("the face", face, faceOfDocument());
     }
 

@@ -445,6 +445,10 @@ public final class PromisesTest {
         same("19 d has 2 and 1 and 1", ward.ways('d', 0, 2, 2), 4L);
         same("19 p", ward.ways('p', 3, 2, 8), 6L);
         same("19 p", ward.ways('p', 3, 3, 12), 19602L);
+        same("19 p", ward.ways('p', 4, 2, 10), 356L);
+        same("19 p", ward.ways('p', 4, 3, 9), 15210L);
+        same("19 p", ward.ways('p', 5, 2, 12), 2638L);
+        same("19 p", ward.ways('p', 5, 3, 9), 18612L);
         same("19 e", ward.ways('e', 5, 3, 12), 19683L * 27 * 4 / 9);
         same("19 e", ward.ways('e', 2, 2, 12), 1L << 12 - 6);
         for (int last : new int[] {0, 13, -1, LEAST, MOST}) {
@@ -640,6 +644,8 @@ public final class PromisesTest {
         same("31 one alone", family(7).hasSunflower(2), false);
         same("31 none", family().hasSunflower(2), false);
         same("31 unlike in common", family(3, 6, 5).hasSunflower(3), false);
+        same("31 the third has of both", family(3, 12, 22).hasSunflower(3), false);
+        same("31 the fourth has of the third", family(1, 2, 12, 52).hasSunflower(4), false);
         same("31 without a core", family(1, 2, 4, 8, 16).hasSunflower(5), true);
         same("31 with the empty set", family(0, 1, 2, 4, 56).hasSunflower(5), true);
         for (int sets : new int[] {1, 6, 0, -1, LEAST, MOST}) {
@@ -756,6 +762,10 @@ public final class PromisesTest {
         same("36 the second has it", play(ward, 3, 0, 4, 1, 5, 2), 1);
         ward.game('a', 4);
         same("36 who first has it loses", play(ward, 0, 5, 1, 4, 2), 1);
+        ward.game('a', 4);
+        same("36 the second has it and loses", play(ward, 3, 0, 4, 1, 5, 2), 0);
+        ward.game('a', 3);
+        same("36 nobody has it", play(ward, 0, 1, 2), -1);
         ward.game('s', 3);
         same("36 nobody", play(ward, 0, 1, 2), -1);
         badState("36 all taken", ward, () -> ward.take(0));
