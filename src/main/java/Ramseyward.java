@@ -363,7 +363,8 @@ public final class Ramseyward {
     }
 
     public boolean isTrue() {
-        return isTreeTrue() && family.longestChain() == family.fewestAntichains() && isMatchTrue();
+        boolean isMatchTrue = !match.isOn || match.valueBehind(match.firstBest()) == match.valueNow();
+        return isTreeTrue() && family.longestChain() == family.fewestAntichains() && isMatchTrue;
     }
 
     private boolean isTreeTrue() {
@@ -373,10 +374,6 @@ public final class Ramseyward {
         }
         tree.begin(pairsOf(4), hues);
         return !tree.next(wishes) || Certificate.flawOf(tree.row, pairsOf(4), wishes) < 0;
-    }
-
-    private boolean isMatchTrue() {
-        return !match.isOn || match.valueBehind(match.firstBest()) == match.valueNow();
     }
 
     // ---- what calls have in common ----
@@ -1198,6 +1195,9 @@ public final class Ramseyward {
 
         /** The winner by best play, who is looked for by whose turn it is: itself, then nobody. */
         private static int valueOf(Match match, int zero, int one, int position, int taken) {
+            if (taken >= match.pairs || taken >= MOST) {
+                return NOBODY;
+            }
             int shift = (position & 15) * 2;
             int word = position >> 4;
             int stored = match.known[word] >>> shift & 3;
