@@ -12,12 +12,14 @@ final class Check {
     private Check() {
     }
 
-    static void same(String what, Object got, Object due) {
+    static boolean same(String what, Object got, Object due) {
         made++;
-        if (!Objects.equals(got, due)) {
+        boolean isSame = Objects.equals(got, due);
+        if (!isSame) {
             wrong++;
             System.out.println(what + " answered " + got + ", due is " + due);
         }
+        return isSame;
     }
 
     /** What a call answers, or the name of the exception that it throws. */
@@ -27,13 +29,6 @@ final class Check {
         } catch (RuntimeException thrown) {
             return thrown.getClass().getSimpleName();
         }
-    }
-
-    /** The call throws that very exception, and the ward shows itself as before. */
-    static void fails(String what, Ramseyward ward, Class<? extends RuntimeException> due, Call call) {
-        String before = View.of(ward);
-        same(what, answerOf(call), due.getSimpleName());
-        same(what + " has changed nothing", View.of(ward), before);
     }
 
     static void end(String test) {

@@ -1,13 +1,15 @@
 /** Runs of many calls, each answered by the program and by the naive ward; the draws come from a fixed rule. */
 public final class CompareTest {
     private static final int RUNS = 300;
-    private static final int CALLS = 512;
+    /** So many calls are left at least as a step begins, which takes a few. */
+    private static final int LEFT = 8;
     private static final char[] KINDS = {'k', 'c', 'p', 's', 'k', 'c', 'p', 's', 'x', 'K', 0};
     private static final char[] RULES = {'s', 'd', 'p', 'e', 's', 'd', 'p', 'e', 'm', 'S', 0};
     private static final char[] GAMES = {'m', 's', 'a', 'm', 's', 'a', 'p', 'M', 0};
     private static long seed = 20261119;
     private static Ramseyward ward;
     private static NaiveWard naive;
+    private static int calls;
 
     private static int draw(int end) {
         seed = seed * 6364136223846793005L + 1442695040888963407L;
@@ -31,6 +33,8 @@ public final class CompareTest {
     }
 
     private static void both(String call, Check.Call got, Check.Call due) {
+        calls++;
+        Check.same("at most 512 calls on an object", calls <= Run.MOST_CALLS, true);
         Check.same(call, Check.answerOf(got), Check.answerOf(due));
     }
 
@@ -38,11 +42,13 @@ public final class CompareTest {
         for (int run = 0; run < RUNS; run++) {
             ward = new Ramseyward();
             naive = new NaiveWard();
+            calls = 0;
             int part = run % 5;
-            for (int call = 0; call < CALLS / 2; call++) {
+            while (calls + LEFT <= Run.MOST_CALLS) {
                 int group = part == 4 || draw(8) == 0 ? draw(4) : part;
-                callOne(group, "run " + run + " call " + call + ": ");
-                Check.same("run " + run + " call " + call + ": checksum", ward.checksum(), naive.checksum());
+                String at = "run " + run + " call " + calls + ": ";
+                callOne(group, at);
+                both(at + "checksum", () -> ward.checksum(), () -> naive.checksum());
             }
         }
         Check.end("CompareTest");

@@ -6,21 +6,25 @@ public final class ThoroughTest {
 
     private static Ramseyward ward;
     private static NaiveWard naive;
+    private static int calls;
 
     private static void both(String call, Check.Call got, Check.Call due) {
+        calls++;
+        Check.same("at most 512 calls on an object", calls <= Run.MOST_CALLS, true);
         Check.same(call, Check.answerOf(got), Check.answerOf(due));
     }
 
     private static void begin(int colours) {
         ward = new Ramseyward();
         naive = new NaiveWard();
-        ward.colours(colours);
-        naive.colours(colours);
+        calls = 0;
+        both("colours " + colours, () -> ward.colours(colours), () -> naive.colours(colours));
     }
 
     private static void tell(int colour, String wish) {
-        ward.wish(colour, wish.charAt(0), wish.charAt(1) - '0');
-        naive.wish(colour, wish.charAt(0), wish.charAt(1) - '0');
+        char kind = wish.charAt(0);
+        int size = wish.charAt(1) - '0';
+        both("wish " + colour + wish, () -> ward.wish(colour, kind, size), () -> naive.wish(colour, kind, size));
     }
 
     public static void main(String[] args) {
@@ -99,9 +103,9 @@ public final class ThoroughTest {
         tell(0, wish);
         for (char rule : "msa".toCharArray()) {
             for (int points = 3; points <= 5; points++) {
-                ward.game(rule, points);
-                naive.game(rule, points);
+                int p = points;
                 String told = wish + " game " + rule + points;
+                both(told, () -> ward.game(rule, p), () -> naive.game(rule, p));
                 int step = 0;
                 while (naive.isOn) {
                     both(told + " winner", () -> ward.winner(), () -> naive.winner());
@@ -143,7 +147,7 @@ public final class ThoroughTest {
             for (int size = 2; size <= 5; size++) {
                 int p = points;
                 int s = size;
-                String told = ward.kind(0) + " " + naive.hues + " chances " + p + " " + s;
+                String told = naive.hues + " chances " + p + " " + s;
                 both(told + " over", () -> ward.expectOver(p, s), () -> naive.expectOver(p, s));
                 both(told + " under", () -> ward.expectUnder(p, s), () -> naive.expectUnder(p, s));
                 both(told + " likely", () -> ward.isLikely(p, s), () -> naive.isLikely(p, s));
@@ -158,7 +162,9 @@ public final class ThoroughTest {
             for (int at = 0; at < 52; at++) {
                 int elements = (at < 44 ? at : at - 44) * step + step / 3 & 63;
                 both("family " + step + " set " + elements, () -> ward.set(elements), () -> naive.set(elements));
-                checkFamily("family " + step + " at " + at + " ", at);
+                if ((at + step / 2) % 2 == 0) {
+                    checkFamily("family " + step + " at " + at + " ", at);
+                }
             }
         }
     }
