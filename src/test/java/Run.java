@@ -38,24 +38,33 @@ final class Run {
         int open = text.indexOf('(');
         int close = text.indexOf(')');
         String[] words = text.substring(0, open).split(" \\* ");
-        String name = words[words.length - 1];
         int times = words.length == 1 ? 1 : Integer.parseInt(words[0]);
-        List<List<Object>> all = new ArrayList<>();
-        all.add(List.of());
-        if (close > open + 1) {
-            for (String argument : text.substring(open + 1, close).split(",")) {
-                all = withEach(all, valuesOf(argument.trim()));
-            }
-        }
-        String[] dues = text.indexOf("= ", close) < 0 ? new String[] {null} : text.substring(text.indexOf("= ", close) + 2).split(" ");
+        List<List<Object>> all = argumentsOf(text.substring(open + 1, close));
+        String[] dues = duesOf(text.substring(close + 1));
         if (dues.length != 1 && dues.length != all.size()) {
             throw new IllegalArgumentException(dues.length + " answers for " + all.size() + " calls: " + text);
         }
         for (int time = 0; time < times; time++) {
             for (int at = 0; at < all.size(); at++) {
-                calls.add(new Call(name, all.get(at), dues[dues.length == 1 ? 0 : at]));
+                calls.add(new Call(words[words.length - 1], all.get(at), dues[dues.length == 1 ? 0 : at]));
             }
         }
+    }
+
+    /** No answer is due where none is written. */
+    private static String[] duesOf(String text) {
+        return text.isEmpty() ? new String[] {null} : text.replaceFirst(" = ", "").split(" ");
+    }
+
+    private static List<List<Object>> argumentsOf(String text) {
+        List<List<Object>> all = new ArrayList<>();
+        all.add(List.of());
+        if (!text.isEmpty()) {
+            for (String argument : text.split(",")) {
+                all = withEach(all, valuesOf(argument.trim()));
+            }
+        }
+        return all;
     }
 
     private static List<List<Object>> withEach(List<List<Object>> heads, List<Object> values) {
