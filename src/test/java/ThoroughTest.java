@@ -99,29 +99,36 @@ public final class ThoroughTest {
     }
 
     private static void checkGames(String wish) {
-        begin(2);
-        tell(0, wish);
         for (char rule : "msa".toCharArray()) {
-            for (int points = 3; points <= 5; points++) {
-                int p = points;
-                String told = wish + " game " + rule + points;
-                both(told, () -> ward.game(rule, p), () -> naive.game(rule, p));
-                int step = 0;
-                while (naive.isOn) {
-                    both(told + " winner", () -> ward.winner(), () -> naive.winner());
-                    both(told + " best", () -> ward.best(), () -> naive.best());
-                    int pair = (step * 7 + points) % naive.had.length;
-                    while (naive.had[pair] >= 0) {
-                        pair = (pair + 1) % naive.had.length;
-                    }
-                    int next = step % 3 == 2 ? pair : naive.best();
-                    both(told + " take " + next, () -> ward.take(next), () -> naive.take(next));
-                    step++;
-                }
-                both(told + " winner", () -> ward.winner(), () -> naive.winner());
-                both(told + " checksum", () -> ward.checksum(), () -> naive.checksum());
+            begin(2);
+            tell(0, wish);
+            checkGame(wish, rule, 3, 1, 0);
+            checkGame(wish, rule, 4, 5, 2);
+            for (int first = 0; first < 10; first++) {
+                begin(2);
+                tell(0, wish);
+                checkGame(wish, rule, 5, 3, first);
+                checkGame(wish, rule, 5, 7, first);
             }
         }
+    }
+
+    /** A game with pairs taken at even steps, and now and then the best one instead. */
+    private static void checkGame(String wish, char rule, int points, int stride, int first) {
+        String told = wish + " game " + rule + points + " by " + stride + " from " + first;
+        both(told, () -> ward.game(rule, points), () -> naive.game(rule, points));
+        int pair = first;
+        for (int step = 0; naive.isOn; step++) {
+            both(told + " winner", () -> ward.winner(), () -> naive.winner());
+            both(told + " best", () -> ward.best(), () -> naive.best());
+            while (naive.had[pair] >= 0) {
+                pair = (pair + stride) % naive.had.length;
+            }
+            int next = (step + first) % 4 == 3 ? naive.best() : pair;
+            both(told + " take " + next, () -> ward.take(next), () -> naive.take(next));
+        }
+        both(told + " winner", () -> ward.winner(), () -> naive.winner());
+        both(told + " checksum", () -> ward.checksum(), () -> naive.checksum());
     }
 
     private static void checkRule(char rule, int size, int colours) {
